@@ -772,10 +772,9 @@ public final class Portinghall {
     /** The centre's row of changes, and the firms' tables, that follow it. */
     private static final class Centre {
         /**
-         * No run comes near this: at most 60 orders are done and 60 turned back, only numbers that
-         * were ordered can be with another firm than the holder's, so that each of at most 5 ends of
-         * firms changes at most 60, and no contract's end comes with a change that none of the orders
-         * led to.
+         * More than any run can need: at most 60 orders are done and 60 turned back; only numbers
+         * with such an order can be away from their holder, so that each of at most 5 ends of firms
+         * changes at most 60; and each of the 60 lets at most one contract's end bring a change.
          */
         static final int MAX_CHANGES = 10 * MAX_ORDERS;
 
@@ -824,7 +823,7 @@ public final class Portinghall {
 
     /** All that changed who serves numbers, so that this can be told anew. */
     private static final class History {
-        /** An object's calls, of which each leads to one event, and the orders that come with minutes. */
+        /** Each of an object's 512 calls leads to one event at most, and so does each order that is done. */
         static final int MAX_EVENTS = 512 + MAX_ORDERS;
 
         final boolean[] isFirmsEnd = new boolean[MAX_EVENTS];

@@ -11,6 +11,7 @@ public final class CallsTest {
         chain();
         holderThatKnowsMore();
         loopOfTwo();
+        throughAllFirms();
         loopBackFromTheHolder();
         stuckAtATable();
         stuckBehindDropBack();
@@ -48,6 +49,9 @@ public final class CallsTest {
 
     /** What the call is, by why and by hop. */
     private static void goes(String what, Portinghall x, int from, int number, int way, int ending, int... hops) {
+        // The last one first, so that no call ahead of it can have left it there.
+        int last = hops.length - 1;
+        Check.is(what + ": last hop", x.hop(from, number, way, last), hops[last]);
         Check.is(what + ": why", x.why(from, number, way), ending);
         for (int place = 0; place < 9; place++) {
             Check.is(what + ": hop " + place, x.hop(from, number, way, place),
@@ -120,6 +124,28 @@ public final class CallsTest {
     }
 
     /** Table of 0: 5; of 5: 1; 1 serves. */
+    /** Table of each firm names the next one; at last 4 serves, or, by one move more, none of them. */
+    private static void throughAllFirms() {
+        Portinghall x = land();
+        move(x, 1, 5);
+        move(x, 2, 1);
+        move(x, 3, 2);
+        move(x, 4, 3);
+        goes("by all firms", x, 5, 3, D, Portinghall.ARRIVED, 5, 0, 1, 2, 3, 4);
+        dials("by all firms", x, 3, D, Portinghall.ARRIVED, 1, 1, 1, 1, 3, -7);
+        Portinghall y = land();
+        move(y, 1, 0);
+        move(y, 2, 1);
+        move(y, 3, 2);
+        move(y, 4, 3);
+        move(y, 1, 4);
+        move(y, 2);
+        goes("a loop behind the holder", y, 5, 3, O, Portinghall.ARRIVED, 5, 0, 1, 2);
+        move(y, 5);
+        goes("from the server at once", y, 5, 3, O, Portinghall.ARRIVED, 5);
+        goes("a loop of four", y, 0, 3, O, Portinghall.LOOP, 0, 1, 2, 3, 4, 1);
+    }
+
     private static void loopBackFromTheHolder() {
         Portinghall x = land();
         move(x, 5, 0);

@@ -126,6 +126,8 @@ public final class FactsTest {
 
     private static void promise20Room() {
         Portinghall x = land();
+        Check.is("the first minute", x.room(0), 0);
+        Check.is("the second minute", x.room(1), 3);
         x.pass(5);
         Check.is("now", x.room(5), 0);
         Check.is("ahead of now", x.room(4), 0);

@@ -25,6 +25,7 @@ public final class BlocksTest {
         for (int number = 0; number < 200; number++) {
             Check.is("holder at first", x.number(number, 0), Portinghall.NONE);
             Check.is("server at first", x.server(number), Portinghall.NONE);
+            Check.is("server anew at first", x.serverAnew(number), Portinghall.NONE);
             Check.is("quarantine at first", x.number(number, 1), 0);
             Check.is("silence at first", x.number(number, 2), 0);
             Check.is("call back at first", x.number(number, 3), 0);
@@ -123,12 +124,14 @@ public final class BlocksTest {
         x.assign(10, 5);
         x.order(1, 10, 5, 10);
         x.emergency(10);
+        x.swap(10, 5);
         Check.is("end", x.end(10), 0);
         Check.is("its order", x.of(0, 0), Portinghall.CANCELLED);
         Check.is("none waits for it", x.number(10, 4), Portinghall.NONE);
         Check.is("not in use", x.server(10), Portinghall.NONE);
         Check.is("in quarantine", x.number(10, 1), 1);
         Check.is("the call back ends with it", x.number(10, 3), 0);
+        Check.is("the silence ends with it", x.number(10, 2), 0);
         Check.noState("end twice", () -> x.end(10));
         Check.noState("end what never began", () -> x.end(11));
         for (int bad : new int[] {-1, 200, LOW, HIGH}) {
@@ -142,7 +145,7 @@ public final class BlocksTest {
         x.swap(10, 7);
         Check.is("silent", x.number(10, 2), 1);
         x.end(10);
-        Check.is("the silence ends with it", x.number(10, 2), 0);
+        Check.is("the silence ends with it, later too", x.number(10, 2), 0);
     }
 
     private static void promise5EndBringsHomeToTables() {

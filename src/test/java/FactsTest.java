@@ -46,7 +46,8 @@ public final class FactsTest {
             Check.noIndex("server anew of " + bad, () -> x.serverAnew(bad));
         }
         serves("never in use", x, 12, Portinghall.NONE);
-        serves("a contract", x, 11, 1);
+        serves("the first contract", x, 0, 0);
+        serves("the last contract", x, 11, 1);
         x.order(2, 11, 5, 10);
         x.order(2, 1, 5, 10);
         x.pass(10);

@@ -217,6 +217,16 @@ public final class OrdersTest {
         x.endFirm(4, 0);
         Check.noState("an heir is another one, the donor too", () -> x.reverse(4));
         Check.is("the heir of another firm does not matter", x.reverse(3), 0);
+        Portinghall z = land();
+        for (int number = 0; number < 8; number++) {
+            z.order(1, number, 5, 10 + number / 3);
+        }
+        z.pass(12);
+        z.endFirm(1, 2);
+        for (int order = 0; order < 8; order++) {
+            int done = order;
+            Check.noState("whatever its number is", () -> z.reverse(done));
+        }
         Portinghall y = land();
         y.order(1, 0, 5, 10);
         y.pass(10);

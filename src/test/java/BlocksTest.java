@@ -22,7 +22,19 @@ public final class BlocksTest {
     private static void promise1NewObject() {
         Portinghall x = new Portinghall();
         Check.is("minute at first", x.minute(), 0);
-        for (int number = 0; number < 200; number++) {
+        for (int firm = 0; firm < 6; firm++) {
+            for (int what = 0; what < 7; what++) {
+                Check.is("firm(" + firm + ", " + what + ") at first", x.firm(firm, what), 0);
+            }
+        }
+        Check.noIndex("no order at first", () -> x.of(0, 0));
+        for (int first = 0; first < 200; first += 50) {
+            promise1Numbers(new Portinghall(), first);
+        }
+    }
+
+    private static void promise1Numbers(Portinghall x, int first) {
+        for (int number = first; number < first + 50; number++) {
             Check.is("holder at first", x.number(number, 0), Portinghall.NONE);
             Check.is("server at first", x.server(number), Portinghall.NONE);
             Check.is("server anew at first", x.serverAnew(number), Portinghall.NONE);
@@ -31,12 +43,6 @@ public final class BlocksTest {
             Check.is("call back at first", x.number(number, 3), 0);
             Check.is("waiting at first", x.number(number, 4), Portinghall.NONE);
         }
-        for (int firm = 0; firm < 6; firm++) {
-            for (int what = 0; what < 7; what++) {
-                Check.is("firm(" + firm + ", " + what + ") at first", x.firm(firm, what), 0);
-            }
-        }
-        Check.noIndex("no order at first", () -> x.of(0, 0));
     }
 
     private static void promise2Give() {

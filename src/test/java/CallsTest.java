@@ -123,7 +123,6 @@ public final class CallsTest {
         goes("a loop behind the holder", x, 5, 3, D, Portinghall.LOOP, 5, 0, 1, 2, 1);
     }
 
-    /** Table of 0: 5; of 5: 1; 1 serves. */
     /** Table of each firm names the next one; at last 4 serves, or, by one move more, none of them. */
     private static void throughAllFirms() {
         Portinghall x = land();

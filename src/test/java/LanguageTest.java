@@ -7,6 +7,7 @@ import java.util.regex.Pattern;
 
 /** What can be seen of ../shared/LANGUAGE.md by looking at the text of the class; .ci/run starts it in the project's folder. */
 public final class LanguageTest {
+    /** The class does without some things, too, that the rules would allow: a try, inheritance, fractions, arrows in a switch. */
     private static final List<String> NOT_THERE = List.of(
         "->", "::", "Exact\\(", "\\bcatch\\b", "\\btry\\b", "\\bfinally\\b", "\\bsynchronized\\b", "\\bassert\\b", "\\bpackage\\b",
         "\\bstatic\\s*\\{", "\"\\s*\\+", "\\+\\s*\"", "\\bprotected\\b", "\\bdouble\\b", "\\bfloat\\b", "\\bSystem\\.(?!arraycopy)",

@@ -136,14 +136,24 @@ public final class LimitsTest {
         Portinghall x = full();
         for (int round = 0; round < 98; round++) {
             for (int number = 0; number < 200; number++) {
-                x.end(number);
+                int each = number;
+                isAnswered("end", () -> x.end(each));
             }
-            x.pass(100);
+            isAnswered("pass", () -> x.pass(100));
             for (int number = 0; number < 200; number++) {
-                x.assign(number, 1);
+                int each = number;
+                isAnswered("assign", () -> x.assign(each, 1));
             }
         }
-        x.serverAnew(199);
-        Check.is("the minute", x.minute(), 9800);
+        isAnswered("serverAnew", () -> x.serverAnew(199));
+        isAnswered("endFirm", () -> x.endFirm(0, 1));
+        isAnswered("serverAnew", () -> x.serverAnew(0));
+    }
+
+    private static void isAnswered(String what, Check.Call call) {
+        String outcome = Check.outcome(call);
+        boolean isNamed = outcome.equals("throws.IndexOutOfBoundsException")
+            || outcome.equals("throws.IllegalArgumentException") || outcome.equals("throws.IllegalStateException");
+        Check.note(isNamed || !outcome.startsWith("throws"), what + ", far beyond the last call, " + outcome);
     }
 }

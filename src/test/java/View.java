@@ -7,51 +7,61 @@ import java.util.List;
  */
 final class View {
     private final List<Act> past;
+    private final int room;
+    private final int orders;
     private final List<String> lines = new ArrayList<>();
 
-    private View(List<Act> past) {
+    /** At most so many questions are put to one object, and so many orders are asked for. */
+    private View(List<Act> past, int room, int orders) {
         this.past = past;
+        this.room = room;
+        this.orders = orders;
     }
 
-    /** A line for each question; at most so many of them are put to one object. */
-    static List<String> behind(List<Act> past, int room) {
-        View view = new View(past);
-        view.askInParts(view.facts(), room);
-        for (List<Act> future : view.futures()) {
-            view.ask(future.subList(0, Math.min(room, future.size())));
-        }
-        return view.lines;
-    }
-
-    /** The first line that is not the same, told as "got, due is", or null. */
+    /** The first answer that is not the same, told as "got, due is", or null. */
     static String difference(List<Act> past, List<Act> duePast) {
         int room = Land.CALLS - Math.max(past.size(), duePast.size());
         // With less room it would take too many objects to ask for all.
         if (room < 10) {
             return null;
         }
-        List<String> got = behind(past, room);
-        List<String> due = behind(duePast, room);
-        for (int i = 0; i < Math.min(got.size(), due.size()); i++) {
+        int orders = Math.max(countOrders(past), countOrders(duePast));
+        List<String> got = new View(past, room, orders).answers();
+        List<String> due = new View(duePast, room, orders).answers();
+        for (int i = 0; i < due.size(); i++) {
             if (!got.get(i).equals(due.get(i))) {
                 return got.get(i) + ", due is " + due.get(i);
             }
         }
-        return got.size() == due.size() ? null : "there are more or fewer orders";
+        return null;
     }
 
-    static Portinghall replay(List<Act> acts) {
+    /** One more than there can be, so that it is seen if a call that was refused became an order. */
+    private static int countOrders(List<Act> past) {
+        int count = 1;
+        for (Act act : past) {
+            count += act.name().startsWith("order(") ? 1 : 0;
+        }
+        return count;
+    }
+
+    private List<String> answers() {
+        List<Act> facts = facts();
+        for (int from = 0; from < facts.size(); from += room) {
+            ask(facts.subList(from, Math.min(facts.size(), from + room)));
+        }
+        for (List<Act> future : futures()) {
+            ask(future.subList(0, Math.min(room, future.size())));
+        }
+        return lines;
+    }
+
+    private static Portinghall replay(List<Act> acts) {
         Portinghall x = new Portinghall();
         for (Act act : acts) {
             act.outcomeOn(x);
         }
         return x;
-    }
-
-    private void askInParts(List<Act> questions, int room) {
-        for (int from = 0; from < questions.size(); from += room) {
-            ask(questions.subList(from, Math.min(questions.size(), from + room)));
-        }
     }
 
     private void ask(List<Act> questions) {
@@ -61,22 +71,12 @@ final class View {
         }
     }
 
-    /** More than there are; the first one that is not there is told by its exception. */
-    private int orders() {
-        Portinghall x = replay(past);
-        int count = 0;
-        while (count < 60 && !Act.of(count, 0).outcomeOn(x).startsWith("throws")) {
-            count++;
-        }
-        return count + 1;
-    }
-
     private List<Act> facts() {
         List<Act> facts = new ArrayList<>();
         int now = replay(past).minute();
         facts.add(Act.minute());
         addFirms(facts);
-        addOrders(facts, 6);
+        addOrders(facts);
         for (int number = 0; number < 200; number++) {
             facts.add(Act.server(number));
             facts.add(Act.serverAnew(number));
@@ -104,10 +104,9 @@ final class View {
         }
     }
 
-    private void addOrders(List<Act> to, int facts) {
-        int count = orders();
-        for (int order = 0; order < count; order++) {
-            for (int what = 0; what < facts; what++) {
+    private void addOrders(List<Act> to) {
+        for (int order = 0; order < orders; order++) {
+            for (int what = 0; what < 6; what++) {
                 to.add(Act.of(order, what));
             }
         }
@@ -123,7 +122,7 @@ final class View {
             swaps.add(Act.swap(number, 0));
             ends.add(Act.end(number));
         }
-        for (int order = orders() - 1; order >= 0; order--) {
+        for (int order = orders - 1; order >= 0; order--) {
             backs.add(Act.reverse(order));
             backs.add(Act.cancel(order));
         }
@@ -135,7 +134,7 @@ final class View {
             List<Act> later = new ArrayList<>();
             later.add(Act.pass(minutes));
             addFirms(later);
-            addOrders(later, 6);
+            addOrders(later);
             futures.add(later);
         }
         return futures;
